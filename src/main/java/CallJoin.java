@@ -326,7 +326,7 @@ public final class CallJoin {
         int nearest = NONE;
         long least = 0;
         for (int call = 0; call < calls.size; call++) {
-            if (isCandidate(call, draft, AGREE_BY_PLACE)) {
+            if (isCandidate(call, draft) && agreement(call, draft) == AGREE_BY_PLACE) {
                 long square = squareBetween(calls.point[call], calls.point[draft]);
                 if (nearest == NONE || square < least) {
                     nearest = call;
@@ -343,7 +343,7 @@ public final class CallJoin {
         int bestBoth = 0;
         int bestEither = 1;
         for (int call = 0; call < calls.size; call++) {
-            if (isCandidate(call, draft, AGREE_BY_WORDS)) {
+            if (isCandidate(call, draft) && agreement(call, draft) == AGREE_BY_WORDS) {
                 int both = rules.weigh(kind, calls.words[call] & calls.words[draft]);
                 int either = rules.weigh(kind, calls.words[call] | calls.words[draft]);
                 // Crosswise, for shares that differ by less than a rounded number could tell.
@@ -357,41 +357,30 @@ public final class CallJoin {
         return greatest;
     }
 
-    private boolean isCandidate(int call, int draft, int way) {
-        return calls.kind[call] == calls.kind[draft] && canBeReason(call) && agreement(call, draft) == way;
+    private boolean isCandidate(int call, int draft) {
+        return calls.kind[call] == calls.kind[draft] && canBeReason(call);
     }
 
     private int agreement(int earlier, int later) {
         if (!isWithinSpan(earlier, later)) {
             return NO_AGREEMENT;
         }
+        int kind = calls.kind[later];
+        int either = rules.weigh(kind, calls.words[earlier] | calls.words[later]);
+        int both = rules.weigh(kind, calls.words[earlier] & calls.words[later]);
+        boolean hasShare = either > 0;
+        boolean isEnough = hasShare && rules.meetsNeed(kind, both, either);
         if (calls.point[earlier] == NONE || calls.point[later] == NONE) {
-            return agreeByWords(earlier, later) ? AGREE_BY_WORDS : NO_AGREEMENT;
+            return isEnough ? AGREE_BY_WORDS : NO_AGREEMENT;
         }
-        return agreeByPlace(earlier, later) ? AGREE_BY_PLACE : NO_AGREEMENT;
+        long square = squareBetween(calls.point[earlier], calls.point[later]);
+        long most = (long) rules.distance[kind] * rules.distance[kind];
+        boolean isNear = hasShare ? isEnough && square <= most : 4 * square <= most;
+        return isNear ? AGREE_BY_PLACE : NO_AGREEMENT;
     }
 
     private boolean isWithinSpan(int earlier, int later) {
         return calls.time[later] - calls.time[earlier] <= rules.span[calls.kind[later]];
-    }
-
-    private boolean agreeByPlace(int earlier, int later) {
-        int kind = calls.kind[later];
-        int a = calls.words[earlier];
-        int b = calls.words[later];
-        long square = squareBetween(calls.point[earlier], calls.point[later]);
-        long most = (long) rules.distance[kind] * rules.distance[kind];
-        if (rules.hasShare(kind, a, b)) {
-            return square <= most && rules.meetsNeed(kind, a, b);
-        }
-        return 4 * square <= most;
-    }
-
-    private boolean agreeByWords(int earlier, int later) {
-        int kind = calls.kind[later];
-        int a = calls.words[earlier];
-        int b = calls.words[later];
-        return rules.hasShare(kind, a, b) && rules.meetsNeed(kind, a, b);
     }
 
     private static int eastOf(int point) {
@@ -431,20 +420,18 @@ public final class CallJoin {
 
         int weigh(int kind, int words) {
             int sum = 0;
-            for (int word = 0; word < WORDS; word++) {
-                if ((words >>> word & 1) == 1) {
+            int rest = words;
+            for (int word = 0; word < WORDS && rest != 0; word++) {
+                if ((rest & 1) == 1) {
                     sum += weights[kind * WORDS + word];
                 }
+                rest >>>= 1;
             }
             return sum;
         }
 
-        boolean hasShare(int kind, int a, int b) {
-            return weigh(kind, a | b) > 0;
-        }
-
-        boolean meetsNeed(int kind, int a, int b) {
-            return weigh(kind, a & b) * needUnder[kind] >= needOver[kind] * weigh(kind, a | b);
+        boolean meetsNeed(int kind, int both, int either) {
+            return both * needUnder[kind] >= needOver[kind] * either;
         }
     }
 

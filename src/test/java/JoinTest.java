@@ -347,7 +347,7 @@ public final class JoinTest {
         closeShares();
     }
 
-    /** 3099 / 3101 and 3100 / 3101 are the same in thousandths, and yet not the same. */
+    /** 3,000, 3,001 and 3,002 of 3,003 are the same in thousandths, and yet not the same. */
     private static void closeShares() {
         CallJoin x = new CallJoin();
         x.rule(0, 0, 600, 2, 1);

@@ -136,6 +136,7 @@ public final class ReadTest {
     private static void events() {
         CallJoin x = new CallJoin();
         x.call(1, 3, Due.at(50, 7), 1, -1, 4);
+        Due.is("the time of its only call", 4, () -> x.eventAt(0, 6));
         x.call(2, 6, -1, 1, -1, 5);
         x.call(1, 4, -1, 0, -1, 9);
         x.state(1, 1);
