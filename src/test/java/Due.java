@@ -15,35 +15,48 @@ final class Due {
     static final String NO_SHARE = "ArithmeticException";
 
     private static int wrong = 0;
+    private static int compared = 0;
+    private static String subject = "";
 
     private Due() {
     }
 
+    /** Stands before each row that is printed, so that a broken promise is told by its number. */
+    static void of(String promise) {
+        subject = promise + ": ";
+    }
+
     static void is(String what, int want, Answer answer) {
-        String got;
-        try {
-            got = Integer.toString(answer.get());
-        } catch (RuntimeException e) {
-            got = e.getClass().getSimpleName();
-        }
-        same(what, Integer.toString(want), got);
+        same(what, Integer.toString(want), answer(answer));
     }
 
     /** The exception's very class is due: a subclass would be one that the machine threw. */
     static void refuses(String what, String exception, Order order) {
-        String got = "nothing";
-        try {
+        same(what, exception, answer(() -> {
             order.give();
+            return 0;
+        }));
+    }
+
+    /** An answer as a text, or the name of the exception that came instead. */
+    static String answer(Answer answer) {
+        try {
+            return Integer.toString(answer.get());
         } catch (RuntimeException e) {
-            got = e.getClass().getSimpleName();
+            return e.getClass().getSimpleName() + (isOfTheMachine(e) ? " of the machine" : "");
         }
-        same(what, exception, got);
+    }
+
+    /** A division is the one case in which the machine throws just the class that the document names. */
+    private static boolean isOfTheMachine(RuntimeException e) {
+        return "/ by zero".equals(e.getMessage());
     }
 
     static void same(String what, String want, String got) {
+        compared++;
         if (!want.equals(got)) {
             wrong++;
-            System.out.println(what + ": answered " + got + ", due is " + want);
+            System.out.println(subject + what + ": answered " + got + ", due is " + want);
         }
     }
 
@@ -52,7 +65,7 @@ final class Due {
     }
 
     static void end() {
-        System.out.println(wrong == 0 ? "all answers are as due" : wrong + " answers are not as due");
+        System.out.println(wrong == 0 ? "all " + compared + " answers are as due" : wrong + " answers are not as due");
         if (wrong != 0) {
             System.exit(1);
         }

@@ -16,6 +16,7 @@ public final class FaceTest {
     private static final String A = "ArithmeticException";
 
     public static void main(String[] args) {
+        Due.of("the public face");
         Set<String> want = new TreeSet<>(List.of(
             "void rule/5 " + I + " " + X,
             "void weight/3 " + I + " " + X,
