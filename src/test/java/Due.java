@@ -52,6 +52,10 @@ final class Due {
         return "/ by zero".equals(e.getMessage());
     }
 
+    static void holds(String what, boolean held) {
+        same(what, "true", Boolean.toString(held));
+    }
+
     static void same(String what, String want, String got) {
         compared++;
         if (!want.equals(got)) {
@@ -65,6 +69,10 @@ final class Due {
     }
 
     static void end() {
+        if (compared == 0) {
+            System.out.println(subject + "nothing was compared");
+            System.exit(1);
+        }
         System.out.println(wrong == 0 ? "all " + compared + " answers are as due" : wrong + " answers are not as due");
         if (wrong != 0) {
             System.exit(1);

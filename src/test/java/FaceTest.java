@@ -2,7 +2,6 @@ import java.lang.reflect.Constructor;
 import java.lang.reflect.Field;
 import java.lang.reflect.Method;
 import java.lang.reflect.Modifier;
-import java.util.ArrayList;
 import java.util.List;
 import java.util.Set;
 import java.util.TreeSet;
@@ -17,55 +16,89 @@ public final class FaceTest {
 
     public static void main(String[] args) {
         Due.of("the public face");
-        Set<String> want = new TreeSet<>(List.of(
-            "void rule/5 " + I + " " + X,
-            "void weight/3 " + I + " " + X,
-            "int point/2 " + I + " " + X + " " + U,
-            "int call/6 " + I + " " + X + " " + U,
-            "int reasonFor/6 " + I + " " + X,
-            "void mark/2 " + I + " " + X,
-            "int split/1 " + I + " " + S + " " + U,
-            "int merge/2 " + I + " " + S,
-            "void watch/4 " + I + " " + X + " " + S,
-            "void state/2 " + I + " " + X + " " + S,
-            "int share/2 " + I + " " + A,
-            "int agree/2 " + I,
-            "int callAt/2 " + I,
-            "int eventAt/2 " + I,
-            "int member/2 " + I + " " + X,
-            "int count/1 " + I));
-        Set<String> got = new TreeSet<>();
-        Set<String> publicNames = new TreeSet<>();
-        List<String> privateNames = new ArrayList<>();
-        for (Method method : CallJoin.class.getDeclaredMethods()) {
-            if (Modifier.isPrivate(method.getModifiers())) {
-                privateNames.add(method.getName());
-            } else {
-                got.add(describe(method));
-                publicNames.add(method.getName());
-            }
-        }
-        Due.same("the methods", want.toString(), got.toString());
-        privateNames.retainAll(publicNames);
-        Due.same("private methods with a public one's name", "[]", privateNames.toString());
-        Due.same("public and final", "true",
-            Boolean.toString(CallJoin.class.getModifiers() == (Modifier.PUBLIC | Modifier.FINAL)));
-        for (Field field : CallJoin.class.getDeclaredFields()) {
-            Due.same(field + " is private", "true", Boolean.toString(Modifier.isPrivate(field.getModifiers())));
-        }
-        for (Constructor<?> constructor : CallJoin.class.getDeclaredConstructors()) {
-            Due.same("the constructor", "public CallJoin()", constructor.toString());
-        }
+        publicAndFinal();
+        theConstructor();
+        theSixteenMethods();
+        privateMethodsHaveOtherNames();
+        fieldsArePrivate();
+        classesInsideAreStaticAndNotPublic();
         Due.end();
     }
 
-    private static String describe(Method method) {
-        StringBuilder text = new StringBuilder();
-        text.append(method.getReturnType()).append(' ').append(method.getName());
-        text.append('/').append(method.getParameterCount());
-        for (Class<?> exception : method.getExceptionTypes()) {
-            text.append(' ').append(exception.getSimpleName());
+    private static void publicAndFinal() {
+        Due.holds("the class is public and final", CallJoin.class.getModifiers() == (Modifier.PUBLIC | Modifier.FINAL));
+        Due.same("its package", "", CallJoin.class.getPackageName());
+    }
+
+    private static void theConstructor() {
+        Constructor<?>[] constructors = CallJoin.class.getDeclaredConstructors();
+        Due.same("constructors", "1", Integer.toString(constructors.length));
+        Due.same("the constructor", "public CallJoin()", constructors[0].toString());
+    }
+
+    private static void theSixteenMethods() {
+        Set<String> want = new TreeSet<>(List.of(
+            "public void rule(int int int int int) " + I + " " + X,
+            "public void weight(int int int) " + I + " " + X,
+            "public int point(int int) " + I + " " + X + " " + U,
+            "public int call(int int int int int int) " + I + " " + X + " " + U,
+            "public int reasonFor(int int int int int int) " + I + " " + X,
+            "public void mark(int int) " + I + " " + X,
+            "public int split(int) " + I + " " + S + " " + U,
+            "public int merge(int int) " + I + " " + S,
+            "public void watch(int int int int) " + I + " " + X + " " + S,
+            "public void state(int int) " + I + " " + X + " " + S,
+            "public int share(int int) " + I + " " + A,
+            "public int agree(int int) " + I,
+            "public int callAt(int int) " + I,
+            "public int eventAt(int int) " + I,
+            "public int member(int int) " + I + " " + X,
+            "public int count(int) " + I));
+        Set<String> got = new TreeSet<>();
+        for (Method method : CallJoin.class.getDeclaredMethods()) {
+            if (!Modifier.isPrivate(method.getModifiers())) {
+                got.add(describe(method));
+            }
         }
-        return text.toString();
+        Due.same("the methods", want.toString(), got.toString());
+    }
+
+    private static void privateMethodsHaveOtherNames() {
+        Set<String> publicNames = new TreeSet<>();
+        Set<String> privateNames = new TreeSet<>();
+        for (Method method : CallJoin.class.getDeclaredMethods()) {
+            (Modifier.isPrivate(method.getModifiers()) ? privateNames : publicNames).add(method.getName());
+        }
+        privateNames.retainAll(publicNames);
+        Due.same("private methods with a public one's name", "[]", privateNames.toString());
+    }
+
+    private static void fieldsArePrivate() {
+        for (Field field : CallJoin.class.getDeclaredFields()) {
+            int how = field.getModifiers();
+            Due.holds(field + " is private", Modifier.isPrivate(how));
+            Due.holds(field + " is final if it is static", Modifier.isFinal(how) || !Modifier.isStatic(how));
+        }
+    }
+
+    private static void classesInsideAreStaticAndNotPublic() {
+        for (Class<?> inside : CallJoin.class.getDeclaredClasses()) {
+            int how = inside.getModifiers();
+            Due.holds(inside + " is static", Modifier.isStatic(how));
+            Due.holds(inside + " is private or of the package", !Modifier.isPublic(how) && !Modifier.isProtected(how));
+        }
+    }
+
+    private static String describe(Method method) {
+        return Modifier.toString(method.getModifiers()) + " " + method.getReturnType() + " " + method.getName()
+            + "(" + namesOf(method.getParameterTypes()) + ") " + namesOf(method.getExceptionTypes());
+    }
+
+    private static String namesOf(Class<?>[] types) {
+        StringBuilder names = new StringBuilder();
+        for (Class<?> type : types) {
+            names.append(names.length() == 0 ? "" : " ").append(type.getSimpleName());
+        }
+        return names.toString();
     }
 }

@@ -148,7 +148,7 @@ public final class ModelTest {
     }
 
     private static void seen(String what, int times) {
-        Due.same(what + " was seen", "true", Boolean.toString(times >= 10));
+        Due.holds(what + " was seen", times >= 10);
     }
 
     private static int ask(Model m, int method, int[] a) {
